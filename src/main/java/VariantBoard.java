@@ -9,6 +9,19 @@ public final class VariantBoard {
     private static final int MAN = 0, CASTLING = 1, DROP = 2;
     private static final int NOTHING = -5, NO_MAN = -6, NO_PART = -7, WRONG = -100;
 
+    private static final int FIRST_FROM = 0, FIRST_TO = 1, SECOND_FROM = 2, SECOND_TO = 3;
+    private static final int MOVE = 1, CAPTURE = 2, FORWARD = 4, BACKWARD = 8, SIDEWAYS = 16, HOP = 32;
+
+    // The steps of the atoms W, F, D, N, A and C one behind the other; those of K are W's and F's.
+    private static final int[] STEP_X = {
+        0, 0, 1, -1, 1, 1, -1, -1, 0, 0, 2, -2, 1, 1, -1, -1, 2, 2, -2, -2,
+        2, 2, -2, -2, 1, 1, -1, -1, 3, 3, -3, -3};
+    private static final int[] STEP_Y = {
+        1, -1, 0, 0, 1, -1, 1, -1, 2, -2, 0, 0, 2, -2, 2, -2, 1, -1, 1, -1,
+        2, -2, 2, -2, 3, -3, 3, -3, 1, -1, 1, -1};
+    private static final int[] ATOM_START = {0, 4, 8, 12, 20, 24, 0};
+    private static final int[] ATOM_END = {4, 8, 12, 20, 24, 32, 8};
+
     // n men have at most n * (36 - n) moves, and the drops are at most 6 * (36 - n): at most 441 for n = 15.
     private static final int MOST_MOVES = 441 + SLOTS;
 
@@ -68,8 +81,8 @@ public final class VariantBoard {
             return BAD;
         }
         int[] values = what == 0 ? laws.royals : laws.promotions;
-        int before = get(values, type);
-        set(values, type, v);
+        int before = cell(values, type);
+        setCell(values, type, v);
         begin();
         return before;
     }
@@ -137,11 +150,11 @@ public final class VariantBoard {
                 || r == p || s == q) {
             return BAD;
         }
-        set(laws.castlingSides, slot, side);
-        set(laws.castlingSquares, 4 * slot, r);
-        set(laws.castlingSquares, 4 * slot + 1, s);
-        set(laws.castlingSquares, 4 * slot + 2, p);
-        set(laws.castlingSquares, 4 * slot + 3, q);
+        setCell(laws.castlingSides, slot, side);
+        setCell(laws.castlingSquares, 4 * slot + FIRST_FROM, r);
+        setCell(laws.castlingSquares, 4 * slot + FIRST_TO, s);
+        setCell(laws.castlingSquares, 4 * slot + SECOND_FROM, p);
+        setCell(laws.castlingSquares, 4 * slot + SECOND_TO, q);
         position.rights |= 1 << slot;
         begin();
         return Integer.bitCount(laws.castlings());
@@ -162,7 +175,7 @@ public final class VariantBoard {
         listLegal();
         int n = 0;
         for (int i = 0; i < legal.length; i++) {
-            if (isOfKind(legal.get(i), kind)) {
+            if (isOfKind(legal.moveAt(i), kind)) {
                 n++;
             }
         }
@@ -170,7 +183,8 @@ public final class VariantBoard {
     }
 
     public int move(int move, int what) {
-        int chosen = legalMove(move);
+        listLegal();
+        int chosen = legal.moveAt(move);
         if (chosen < 0) {
             return NONE;
         }
@@ -206,7 +220,8 @@ public final class VariantBoard {
     }
 
     public int make(int move) {
-        int chosen = legalMove(move);
+        listLegal();
+        int chosen = legal.moveAt(move);
         if (chosen < 0) {
             return NONE;
         }
@@ -224,7 +239,7 @@ public final class VariantBoard {
             return STATE;
         }
         trail.made--;
-        play.retract(position, get(trail.moves, trail.made), get(trail.undos, trail.made));
+        play.retract(position, cell(trail.moves, trail.made), cell(trail.undos, trail.made));
         listed = false;
         return trail.made;
     }
@@ -276,7 +291,8 @@ public final class VariantBoard {
     }
 
     public int told(int move, int i) {
-        int chosen = legalMove(move);
+        listLegal();
+        int chosen = legal.moveAt(move);
         if (chosen < 0) {
             return NONE;
         }
@@ -290,9 +306,9 @@ public final class VariantBoard {
         }
         switch (what) {
             case 0: return laws.partsOf(type) == 0 ? NOTHING : laws.partsOf(type);
-            case 1: return laws.directionsOf(type);
-            case 2: return get(laws.royals, type);
-            case 3: return get(laws.promotions, type);
+            case 1: return laws.directionCount(type);
+            case 2: return cell(laws.royals, type);
+            case 3: return cell(laws.promotions, type);
             case 4: return position.menOfType(type);
             case 5: return mostMovesAlone(type);
             default: return NONE;
@@ -324,7 +340,7 @@ public final class VariantBoard {
 
     public int count(int what) {
         if (what >= 20 && what < 20 + 2 * TYPES) {
-            return get(position.hands, what - 20);
+            return cell(position.hands, what - 20);
         }
         switch (what) {
             case 0: return position.menOnBoard();
@@ -360,12 +376,6 @@ public final class VariantBoard {
         }
     }
 
-    /** The legal move with a number, or -1 if there is none. */
-    private int legalMove(int number) {
-        listLegal();
-        return number >= 0 && number < legal.length ? legal.get(number) : -1;
-    }
-
     private boolean isOfKind(int move, int kind) {
         if (kind == 3) {
             return true;
@@ -379,13 +389,13 @@ public final class VariantBoard {
     private int fromSquare(int move) {
         switch (kindOf(move)) {
             case MAN: return firstOf(move);
-            case CASTLING: return laws.castlingSquare(firstOf(move), 0);
+            case CASTLING: return laws.castlingSquare(firstOf(move), FIRST_FROM);
             default: return NOTHING;
         }
     }
 
     private int toSquare(int move) {
-        return kindOf(move) == CASTLING ? laws.castlingSquare(firstOf(move), 1) : secondOf(move);
+        return kindOf(move) == CASTLING ? laws.castlingSquare(firstOf(move), FIRST_TO) : secondOf(move);
     }
 
     private int capturedType(int move) {
@@ -558,11 +568,11 @@ public final class VariantBoard {
         return move & 63;
     }
 
-    private static int get(int[] row, int i) {
+    private static int cell(int[] row, int i) {
         return i >= 0 && i < row.length ? row[i] : 0;
     }
 
-    private static void set(int[] row, int i, int v) {
+    private static void setCell(int[] row, int i, int v) {
         if (i >= 0 && i < row.length) {
             row[i] = v;
         }
@@ -615,8 +625,9 @@ public final class VariantBoard {
             }
         }
 
-        int get(int i) {
-            return i >= 0 && i < moves.length ? moves[i] : 0;
+        /** The move with a number, or -1 if there is none. */
+        int moveAt(int i) {
+            return i >= 0 && i < length && i < moves.length ? moves[i] : -1;
         }
     }
 
@@ -655,7 +666,7 @@ public final class VariantBoard {
             for (int i = 0; i < text.length; i++) {
                 int sign = text.signAt(i);
                 if (digitFits && (sign == '0' || sign >= '2' && sign <= '5')) {
-                    VariantBoard.set(reaches, length - 1, sign == '0' ? GREATEST - 1 : sign - '0');
+                    setCell(reaches, length - 1, sign == '0' ? GREATEST - 1 : sign - '0');
                     digitFits = false;
                     continue;
                 }
@@ -680,9 +691,9 @@ public final class VariantBoard {
         }
 
         private void addPart(int atom, int mark) {
-            VariantBoard.set(atoms, length, atom);
-            VariantBoard.set(marks, length, mark);
-            VariantBoard.set(reaches, length, 1);
+            setCell(atoms, length, atom);
+            setCell(marks, length, (mark & (MOVE | CAPTURE)) == 0 ? mark | MOVE | CAPTURE : mark);
+            setCell(reaches, length, 1);
             length++;
         }
 
@@ -728,21 +739,11 @@ public final class VariantBoard {
 
     /** What does not change by moves: the types, the rules and the castlings without their rights. */
     private static final class Laws {
-        // The directions of the atoms W, F, D, N, A and C one behind the other; those of K are W's and F's.
-        private static final int[] STEP_X = {
-            0, 0, 1, -1, 1, 1, -1, -1, 0, 0, 2, -2, 1, 1, -1, -1, 2, 2, -2, -2,
-            2, 2, -2, -2, 1, 1, -1, -1, 3, 3, -3, -3};
-        private static final int[] STEP_Y = {
-            1, -1, 0, 0, 1, -1, 1, -1, 2, -2, 0, 0, 2, -2, 2, -2, 1, -1, 1, -1,
-            2, -2, 2, -2, 3, -3, 3, -3, 1, -1, 1, -1};
-        private static final int[] ATOM_FIRST = {0, 4, 8, 12, 20, 24, 0};
-        private static final int[] ATOM_END = {4, 8, 12, 20, 24, 32, 8};
-        private static final int MOVE = 1, CAPTURE = 2, FORWARD = 4, BACKWARD = 8, SIDEWAYS = 16, HOP = 32;
-
         final int[] partCounts = new int[TYPES];
         final int[] atoms = new int[TYPES * PARTS];
         final int[] marks = new int[TYPES * PARTS];
         final int[] reaches = new int[TYPES * PARTS];
+        final int[] directions = new int[TYPES * PARTS];
         final int[] royals = new int[TYPES];
         final int[] promotions = new int[TYPES];
         final int[] castlingSides = new int[SLOTS];
@@ -760,6 +761,7 @@ public final class VariantBoard {
             copy(other.atoms, atoms);
             copy(other.marks, marks);
             copy(other.reaches, reaches);
+            copy(other.directions, directions);
             copy(other.royals, royals);
             copy(other.promotions, promotions);
             copy(other.castlingSides, castlingSides);
@@ -769,71 +771,50 @@ public final class VariantBoard {
         }
 
         void setParts(int type, PartReader read) {
-            VariantBoard.set(partCounts, type, read.length);
+            setCell(partCounts, type, read.length);
             for (int i = 0; i < read.length && i < PARTS; i++) {
-                VariantBoard.set(atoms, type * PARTS + i, VariantBoard.get(read.atoms, i));
-                VariantBoard.set(marks, type * PARTS + i, VariantBoard.get(read.marks, i));
-                VariantBoard.set(reaches, type * PARTS + i, VariantBoard.get(read.reaches, i));
+                int part = type * PARTS + i;
+                int atom = cell(read.atoms, i);
+                int mark = cell(read.marks, i);
+                setCell(atoms, part, atom);
+                setCell(marks, part, mark);
+                setCell(reaches, part, cell(read.reaches, i));
+                setCell(directions, part, directionsOf(atom, mark));
             }
+        }
+
+        /** The steps that White's men may take, bit n for the step n; Black's are these with the rows turned. */
+        private static int directionsOf(int atom, int mark) {
+            int directions = 0;
+            for (int step = cell(ATOM_START, atom); step < cell(ATOM_END, atom); step++) {
+                int y = cell(STEP_Y, step);
+                int needed = y > 0 ? FORWARD : y < 0 ? BACKWARD : SIDEWAYS;
+                if ((mark & needed) != 0 || (mark & (FORWARD | BACKWARD | SIDEWAYS)) == 0) {
+                    directions |= 1 << step;
+                }
+            }
+            return directions;
         }
 
         int partsOf(int type) {
-            return VariantBoard.get(partCounts, type);
+            return cell(partCounts, type);
         }
 
-        int firstStep(int part) {
-            return VariantBoard.get(ATOM_FIRST, VariantBoard.get(atoms, part));
-        }
-
-        int stepsEnd(int part) {
-            return VariantBoard.get(ATOM_END, VariantBoard.get(atoms, part));
-        }
-
-        /** Whether a part has a direction for White; Black's directions are White's with the rows turned. */
-        boolean allows(int part, int step) {
-            int mark = VariantBoard.get(marks, part);
-            if ((mark & (FORWARD | BACKWARD | SIDEWAYS)) == 0) {
-                return true;
-            }
-            int y = VariantBoard.get(STEP_Y, step);
-            int needed = y > 0 ? FORWARD : y < 0 ? BACKWARD : SIDEWAYS;
-            return (mark & needed) != 0;
-        }
-
-        boolean goesToEmpty(int part) {
-            int mark = VariantBoard.get(marks, part);
-            return (mark & MOVE) != 0 || (mark & CAPTURE) == 0;
-        }
-
-        boolean captures(int part) {
-            int mark = VariantBoard.get(marks, part);
-            return (mark & CAPTURE) != 0 || (mark & MOVE) == 0;
-        }
-
-        int hopsOf(int part) {
-            return (VariantBoard.get(marks, part) & HOP) != 0 ? 1 : 0;
-        }
-
-        int directionsOf(int type) {
+        int directionCount(int type) {
             int n = 0;
             for (int i = 0; i < partsOf(type); i++) {
-                int part = type * PARTS + i;
-                for (int step = firstStep(part); step < stepsEnd(part); step++) {
-                    if (allows(part, step)) {
-                        n++;
-                    }
-                }
+                n += Integer.bitCount(cell(directions, type * PARTS + i));
             }
             return n;
         }
 
         boolean isRoyal(int type) {
-            return VariantBoard.get(royals, type) != 0;
+            return cell(royals, type) != 0;
         }
 
         /** The type that a type promotes to, or -1. */
         int promotionOf(int type) {
-            return isType(type) ? VariantBoard.get(promotions, type) : -1;
+            return isType(type) ? cell(promotions, type) : -1;
         }
 
         /** The slots that have a castling, bit n for the slot n. */
@@ -847,9 +828,9 @@ public final class VariantBoard {
             return slots;
         }
 
-        /** The square r, s, p or q of a castling, for which 0 to 3. */
+        /** A square of a castling: which is FIRST_FROM, FIRST_TO, SECOND_FROM or SECOND_TO. */
         int castlingSquare(int slot, int which) {
-            return VariantBoard.get(castlingSquares, 4 * slot + which);
+            return cell(castlingSquares, 4 * slot + which);
         }
 
         void removeCastlings() {
@@ -907,7 +888,7 @@ public final class VariantBoard {
         }
 
         int manOn(int square) {
-            return VariantBoard.get(men, square);
+            return square >= 0 && square < men.length ? men[square] : 0;
         }
 
         void put(int square, int man) {
@@ -944,12 +925,12 @@ public final class VariantBoard {
         }
 
         int inHand(int side, int type) {
-            return VariantBoard.get(hands, side * TYPES + type);
+            return cell(hands, side * TYPES + type);
         }
 
         void addToHand(int side, int type, int n) {
             int i = side * TYPES + type;
-            VariantBoard.set(hands, i, VariantBoard.get(hands, i) + n);
+            setCell(hands, i, cell(hands, i) + n);
         }
 
         int digestNow() {
@@ -984,19 +965,19 @@ public final class VariantBoard {
 
         void begin(int digest) {
             made = 0;
-            VariantBoard.set(digests, 0, digest);
+            setCell(digests, 0, digest);
         }
 
         void add(int move, int undo, int digest) {
-            VariantBoard.set(moves, made, move);
-            VariantBoard.set(undos, made, undo);
+            setCell(moves, made, move);
+            setCell(undos, made, undo);
             made++;
-            VariantBoard.set(digests, made, digest);
+            setCell(digests, made, digest);
         }
 
         /** How often the latest position has occurred. */
         int occurrences() {
-            int latest = VariantBoard.get(digests, made);
+            int latest = cell(digests, made);
             int n = 0;
             for (int i = 0; i <= made && i < digests.length; i++) {
                 if (digests[i] == latest) {
@@ -1016,6 +997,9 @@ public final class VariantBoard {
 
     /** How men go and attack by the laws, in whatever position. */
     private static final class Play {
+        // Attacked is also what no man of the other side stands on: attacks are captures with others everywhere.
+        private static final long NOWHERE = 0L, EVERYWHERE = -1L;
+
         final Laws laws;
 
         Play(Laws laws) {
@@ -1024,60 +1008,52 @@ public final class VariantBoard {
 
         /** The squares to which the man on a square can go by its parts. */
         long targets(Position p, int square) {
-            int man = p.manOn(square);
-            int type = typeOf(man);
-            long empty = ~(p.white | p.black);
-            long others = p.menOf(1 - sideOf(man));
-            long targets = 0;
-            for (int i = 0; i < laws.partsOf(type); i++) {
-                int part = type * PARTS + i;
-                long wanted = (laws.goesToEmpty(part) ? empty : 0L) | (laws.captures(part) ? others : 0L);
-                targets |= reached(p, square, part, sideOf(man)) & wanted;
-            }
-            return targets;
+            return ends(p, square, ~(p.white | p.black), p.menOf(1 - sideOf(p.manOn(square))));
         }
 
-        /** The squares that the man on a square attacks. */
-        long attacks(Position p, int square) {
+        /** Where the ways of a man's parts end: among the empty squares if they move, among others if they capture. */
+        private long ends(Position p, int square, long empty, long others) {
             int man = p.manOn(square);
-            int type = typeOf(man);
-            long attacks = 0;
-            for (int i = 0; i < laws.partsOf(type); i++) {
-                int part = type * PARTS + i;
-                if (laws.captures(part)) {
-                    attacks |= reached(p, square, part, sideOf(man));
+            int x = p.columnOf(square);
+            int y = p.rowOf(square);
+            int forward = sideOf(man) == 0 ? 1 : -1;
+            int first = typeOf(man) * PARTS;
+            int end = first + cell(laws.partCounts, typeOf(man));
+            long ends = 0;
+            for (int part = first; part < end; part++) {
+                int mark = cell(laws.marks, part);
+                long wanted = ((mark & MOVE) != 0 ? empty : 0L) | ((mark & CAPTURE) != 0 ? others : 0L);
+                if (wanted == 0) {
+                    continue;
+                }
+                int hops = (mark & HOP) != 0 ? 1 : 0;
+                int reach = cell(laws.reaches, part);
+                int directions = cell(laws.directions, part);
+                int atom = cell(laws.atoms, part);
+                int stepEnd = cell(ATOM_END, atom);
+                for (int step = cell(ATOM_START, atom); step < stepEnd; step++) {
+                    if ((directions >> step & 1) != 0) {
+                        int dy = forward * cell(STEP_Y, step);
+                        ends |= wanted & way(p, x, y, cell(STEP_X, step), dy, reach, hops);
+                    }
                 }
             }
-            return attacks;
+            return ends;
         }
 
-        /** The last squares of a part's ways, whatever stands there. */
-        private long reached(Position p, int square, int part, int side) {
-            long reached = 0;
-            for (int step = laws.firstStep(part); step < laws.stepsEnd(part); step++) {
-                if (laws.allows(part, step)) {
-                    reached |= way(p, square, part, step, side);
-                }
-            }
-            return reached;
-        }
-
-        private long way(Position p, int square, int part, int step, int side) {
-            int dx = VariantBoard.get(Laws.STEP_X, step);
-            int dy = side == 0 ? VariantBoard.get(Laws.STEP_Y, step) : -VariantBoard.get(Laws.STEP_Y, step);
-            int reach = VariantBoard.get(laws.reaches, part);
-            int hops = laws.hopsOf(part);
+        /** The squares of a way with so many men before them as are to be hopped over. */
+        private static long way(Position p, int fromX, int fromY, int dx, int dy, int reach, int hops) {
             long occupied = p.white | p.black;
-            long reached = 0;
+            long way = 0;
             int over = 0;
-            int x = p.columnOf(square) + dx;
-            int y = p.rowOf(square) + dy;
-            for (int n = 1; n <= reach && x >= 0 && x < p.columns && y >= 0 && y < p.rows; n++) {
-                int last = y * p.columns + x;
+            int x = fromX + dx;
+            int y = fromY + dy;
+            for (int n = 0; n < reach && x >= 0 && x < p.columns && y >= 0 && y < p.rows; n++) {
+                long square = 1L << (y * p.columns + x);
                 if (over == hops) {
-                    reached |= 1L << last;
+                    way |= square;
                 }
-                if (has(occupied, last)) {
+                if ((occupied & square) != 0) {
                     over++;
                 }
                 if (over > hops) {
@@ -1086,14 +1062,14 @@ public final class VariantBoard {
                 x += dx;
                 y += dy;
             }
-            return reached;
+            return way;
         }
 
         long attackedBy(Position p, int side) {
             long attacked = 0;
             for (int square = 0; square < p.squares(); square++) {
                 if (has(p.menOf(side), square)) {
-                    attacked |= attacks(p, square);
+                    attacked |= ends(p, square, NOWHERE, EVERYWHERE);
                 }
             }
             return attacked;
@@ -1103,7 +1079,7 @@ public final class VariantBoard {
         long menAttacking(Position p, int side, long squares) {
             long attackers = 0;
             for (int square = 0; square < p.squares(); square++) {
-                if (has(p.menOf(side), square) && (attacks(p, square) & squares) != 0) {
+                if (has(p.menOf(side), square) && (ends(p, square, NOWHERE, EVERYWHERE) & squares) != 0) {
                     attackers |= 1L << square;
                 }
             }
@@ -1134,14 +1110,20 @@ public final class VariantBoard {
 
         /** The lowest square with a man that attacks a royal man of a side. */
         int lowestChecker(Position p, int side) {
-            return Long.numberOfTrailingZeros(menAttacking(p, 1 - side, royalMen(p, side)));
+            long checkers = menAttacking(p, 1 - side, royalMen(p, side));
+            for (int square = 0; square < p.squares(); square++) {
+                if (has(checkers, square)) {
+                    return square;
+                }
+            }
+            return NOTHING;
         }
 
         /** The man that goes by a move, as it is before, a castling's first one. */
         int goer(Position p, int move) {
             switch (kindOf(move)) {
                 case MAN: return p.manOn(firstOf(move));
-                case CASTLING: return p.manOn(laws.castlingSquare(firstOf(move), 0));
+                case CASTLING: return p.manOn(laws.castlingSquare(firstOf(move), FIRST_FROM));
                 default: return manOf(p.turn, firstOf(move));
             }
         }
@@ -1174,7 +1156,7 @@ public final class VariantBoard {
             int gained = 0;
             p.rights &= ~rightsTouched(move);
             if (kindOf(move) == CASTLING) {
-                moveTwo(p, firstOf(move), 0, 1);
+                moveTwo(p, firstOf(move), FIRST_FROM, FIRST_TO);
             } else if (kindOf(move) == MAN) {
                 int arrival = arrival(p, move);
                 p.put(firstOf(move), 0);
@@ -1199,11 +1181,13 @@ public final class VariantBoard {
             p.turn = side;
             p.rights = undo >> 9;
             if (kindOf(move) == CASTLING) {
-                moveTwo(p, firstOf(move), 1, 0);
+                moveTwo(p, firstOf(move), FIRST_TO, FIRST_FROM);
             } else if (kindOf(move) == MAN) {
                 p.put(firstOf(move), goer);
                 p.put(secondOf(move), captured);
-                p.addToHand(side, typeOf(captured), -(undo >> 8 & 1));
+                if ((undo >> 8 & 1) != 0) {
+                    p.addToHand(side, typeOf(captured), -1);
+                }
             } else {
                 p.put(secondOf(move), 0);
                 p.addToHand(side, typeOf(goer), 1);
@@ -1213,13 +1197,13 @@ public final class VariantBoard {
         /** Moves both men of a castling, from r and p to s and q or the other way; one may come where the other was. */
         private void moveTwo(Position p, int slot, int from, int to) {
             int firstFrom = laws.castlingSquare(slot, from);
-            int secondFrom = laws.castlingSquare(slot, 2 + from);
+            int secondFrom = laws.castlingSquare(slot, SECOND_FROM + from);
             int first = p.manOn(firstFrom);
             int second = p.manOn(secondFrom);
             p.put(firstFrom, 0);
             p.put(secondFrom, 0);
             p.put(laws.castlingSquare(slot, to), first);
-            p.put(laws.castlingSquare(slot, 2 + to), second);
+            p.put(laws.castlingSquare(slot, SECOND_FROM + to), second);
         }
 
         /** The slots whose castlings lose their right by a move. */
@@ -1237,7 +1221,8 @@ public final class VariantBoard {
             }
             int lost = 0;
             for (int slot = 0; slot < SLOTS; slot++) {
-                if (has(touched, laws.castlingSquare(slot, 0)) || has(touched, laws.castlingSquare(slot, 2))) {
+                if (has(touched, laws.castlingSquare(slot, FIRST_FROM))
+                        || has(touched, laws.castlingSquare(slot, SECOND_FROM))) {
                     lost |= 1 << slot;
                 }
             }
@@ -1247,17 +1232,17 @@ public final class VariantBoard {
         void listLegal(Position p, MoveList list) {
             listCandidates(p, list);
             int side = p.turn;
-            int candidates = list.length;
-            list.length = 0;
-            for (int i = 0; i < candidates; i++) {
-                int move = list.get(i);
+            int kept = 0;
+            for (int i = 0; i < list.length; i++) {
+                int move = list.moveAt(i);
                 int undo = apply(p, move);
-                boolean safe = isSafe(p, side);
-                retract(p, move, undo);
-                if (safe) {
-                    list.add(move);
+                if (isSafe(p, side)) {
+                    setCell(list.moves, kept, move);
+                    kept++;
                 }
+                retract(p, move, undo);
             }
+            list.length = kept;
         }
 
         /** Lists the moves in their order, also those by which the side to move would not be safe. */
@@ -1299,13 +1284,13 @@ public final class VariantBoard {
         }
 
         private boolean isPossible(Position p, int slot) {
-            if (VariantBoard.get(laws.castlingSides, slot) != p.turn || (p.rights >> slot & 1) == 0) {
+            if (cell(laws.castlingSides, slot) != p.turn || (p.rights >> slot & 1) == 0) {
                 return false;
             }
-            int first = laws.castlingSquare(slot, 0);
-            int firstTo = laws.castlingSquare(slot, 1);
-            int second = laws.castlingSquare(slot, 2);
-            int secondTo = laws.castlingSquare(slot, 3);
+            int first = laws.castlingSquare(slot, FIRST_FROM);
+            int firstTo = laws.castlingSquare(slot, FIRST_TO);
+            int second = laws.castlingSquare(slot, SECOND_FROM);
+            int secondTo = laws.castlingSquare(slot, SECOND_TO);
             long own = p.menOf(p.turn);
             if (!has(own, first) || !has(own, second) || !laws.isRoyal(typeOf(p.manOn(first)))) {
                 return false;
@@ -1344,11 +1329,11 @@ public final class VariantBoard {
             int side = p.turn;
             int n = 0;
             for (int i = 0; i < secondMoves.length; i++) {
-                int undo = play.apply(p, secondMoves.get(i));
+                int undo = play.apply(p, secondMoves.moveAt(i));
                 if (play.isSafe(p, side)) {
                     n++;
                 }
-                play.retract(p, secondMoves.get(i), undo);
+                play.retract(p, secondMoves.moveAt(i), undo);
             }
             return n;
         }
@@ -1358,11 +1343,11 @@ public final class VariantBoard {
             int side = p.turn;
             int n = 0;
             for (int i = 0; i < firstMoves.length; i++) {
-                int undo = play.apply(p, firstMoves.get(i));
+                int undo = play.apply(p, firstMoves.moveAt(i));
                 if (play.isSafe(p, side)) {
                     n += movesMade(p);
                 }
-                play.retract(p, firstMoves.get(i), undo);
+                play.retract(p, firstMoves.moveAt(i), undo);
             }
             return n;
         }
@@ -1372,7 +1357,7 @@ public final class VariantBoard {
             int n = 0;
             for (int i = 0; i < secondMoves.length; i++) {
                 secondCopy.copyFrom(p);
-                play.apply(secondCopy, secondMoves.get(i));
+                play.apply(secondCopy, secondMoves.moveAt(i));
                 if (play.isSafe(secondCopy, p.turn)) {
                     n++;
                 }
@@ -1385,7 +1370,7 @@ public final class VariantBoard {
             int n = 0;
             for (int i = 0; i < firstMoves.length; i++) {
                 firstCopy.copyFrom(p);
-                play.apply(firstCopy, firstMoves.get(i));
+                play.apply(firstCopy, firstMoves.moveAt(i));
                 if (play.isSafe(firstCopy, p.turn)) {
                     n += movesCopied(firstCopy);
                 }
