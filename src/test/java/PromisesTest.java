@@ -372,6 +372,9 @@ public final class PromisesTest {
         due("9 men", x.hand(1, 5, 9), 0);
         due("none", x.hand(1, 5, 0), 9);
         due("White's", x.hand(0, 0, 4), 0);
+        due("more", x.hand(0, 0, 7), 4);
+        due("fewer", x.hand(0, 0, 4), 7);
+        due("now", x.count(20), 4);
         due("side 2", x.hand(2, 0, 1), NONE);
         due("side -1", x.hand(-1, 0, 1), NONE);
         due("type 6", x.hand(0, 6, 1), NONE);
@@ -578,6 +581,8 @@ public final class PromisesTest {
         due("p attacked", castlings("5b/1A3B"), 1);
         x.rule(1, 2);
         due("attacked whatever the rule", castlings("2b3/1A3B"), 0);
+        due("s attacked whatever the rule", castlings("3b2/1A3B"), 0);
+        due("r attacked whatever the rule", castlings("1b4/1A3B"), 0);
         x.rule(1, 0);
         setup("6/1A3B");
         x.side(1);
@@ -602,6 +607,25 @@ public final class PromisesTest {
         due("s is p", castlings("6/A1B3"), 1);
         make("O0");
         dueText("moved", text(), "6/2AB2");
+        x.castle(0, 1, 0, 2, 2, 3);
+        due("of the other side, with men of this one", castlings("6/A1B3"), 0);
+        x.side(1);
+        due("of this side, with men of the other one", x.moves(1), 0);
+        x.castle(0, 1, 6, 8, 11, 7);
+        setup("a4b/6");
+        x.side(1);
+        due("Black's", x.moves(1), 1);
+        setup("a4b/1B4");
+        x.side(1);
+        due("Black's, attacked", x.moves(1), 0);
+        x.castle(0, 0, 0, 2, 5, 1);
+        setup("4a1/A4B");
+        make("Aa1-b1");
+        make("ae2-d2");
+        make("Ab1-a1");
+        due("to and fro", make("ad2-e2"), 1);
+        due("without its right", x.moves(1), 0);
+        due("its men are there", x.at(0) + x.at(5), 1);
         castlingIntoDanger();
     }
 
@@ -638,6 +662,11 @@ public final class PromisesTest {
         due("Black's drops", x.moves(2), 7);
         x.type(1, 1, 3);
         due("not in Black's far row", x.moves(2), 5);
+        x.type(1, 1, 0);
+        due("with the promotion type 0, too", x.moves(2), 5);
+        x.hand(1, 1, 0);
+        x.hand(1, 0, 1);
+        due("of the type 0", x.moves(2), 5);
         setup("b2/3/A2");
         x.hand(0, 2, 9);
         dueText("only a drop between saves", all(), "Aa1-b1 C@a2");
@@ -692,6 +721,10 @@ public final class PromisesTest {
     private void promise13Move() {
         promise = "13 move";
         commonTypes();
+        setup("a5/6/6/6/6/A5");
+        due("before the moves are asked for", x.move(1, 2), 6);
+        x.side(1);
+        due("after another call", x.move(0, 2), 24);
         x.rule(0, 1);
         setup("1a3b/4D1/6/6/6/A4B");
         x.hand(0, 1, 1);
@@ -753,6 +786,15 @@ public final class PromisesTest {
         due("not all attacked", x.proof(1, 2), NOTHING);
         x.rule(1, 2);
         due("always safe", x.proof(1, 7), NOTHING);
+        x.type(1, 0, 0);
+        x.rule(1, 0);
+        setup("1a4/6/6/6/6/BB4");
+        x.side(1);
+        due("Black's, legal", x.proof(31, 32), NOTHING);
+        due("Black's, by the lowest square of all", x.proof(31, 30), 0);
+        due("Black's, by the next", x.proof(31, 25), 1);
+        setup("1b1b2/6/6/6/3b2/1A1B2");
+        x.proof(1, 7);
         due("the board is as it was", x.digest(), digestOf("1b1b2/6/6/6/3b2/1A1B2"));
     }
 
@@ -839,7 +881,16 @@ public final class PromisesTest {
         x.castle(2, 0, 1, 4, 4, 2);
         x.castle(3, 1, 4, 4, 3, 1);
         make("O0");
-        due("by another castling", x.count(7), 1);
+        due("by another castling's s and q", x.count(7), 1);
+        x.castle(0, 0, 2, 4, 3, 5);
+        x.castle(1, 0, 0, 1, 1, 0);
+        x.castle(2, 0, 2, 2, 1, 0);
+        x.castle(3, 0, 0, 2, 3, 4);
+        x.side(0);
+        make("O0");
+        due("by another castling's r and p", x.count(7), 1);
+        x.back();
+        setup("6/6/6/6/6/2AB2");
         dueText("the castling", text(), "6/6/6/6/6/2AB2");
         commonTypes();
         setup("b5/6/6/6/6/B5");
@@ -985,6 +1036,7 @@ public final class PromisesTest {
         x.hand(0, 2, 1);
         x.hand(1, 1, 1);
         x.castle(0, 0, 0, 2, 5, 3);
+        int copied = x.sequences(2, 1);
         int pairs = 0;
         int all = x.moves(3);
         int digest = x.digest();
@@ -993,6 +1045,7 @@ public final class PromisesTest {
             pairs += x.moves(3);
             x.back();
         }
+        due("two, in copies first", copied, pairs);
         for (int way = 0; way < 2; way++) {
             due("none", x.sequences(0, way), 1);
             due("one", x.sequences(1, way), all);
@@ -1123,6 +1176,74 @@ public final class PromisesTest {
         due("in place of the earlier one", x.image(), 2);
         x.size(2, 2);
         due("undo", x.undo(), 2);
+        define(0, "mW2");
+        x.castle(2, 1, 30, 31, 32, 33);
+        x.image();
+        String all = all();
+        define(0, "cF3");
+        x.castle(2, 0, 30, 32, 33, 31);
+        x.undo();
+        dueText("parts", all(), all);
+        setup("ad4/6/6/6/6/A5");
+        x.side(1);
+        due("the castling's side", x.moves(1), 0);
+        define(0, "mW");
+        setup("a1d3/6/6/6/6/A5");
+        x.side(1);
+        due("the castling's squares", castled(), 31);
+        x.image();
+        x.castle(2, 1, 30, 31, 33, 32);
+        x.undo();
+        due("the castling's squares again", castled(), 31);
+        make("O2");
+        x.image();
+        x.back();
+        make("aa6-b6");
+        make("Aa1-b1");
+        x.undo();
+        due("the move", x.back(), 0);
+        dueText("is taken back as it was made", text(), "a1d3/6/6/6/6/A5");
+        due("with the right", x.count(7), 1);
+        occurrencesInImage();
+    }
+
+    /** Where the first castling leads, or -1. */
+    private int castled() {
+        return x.moves(1) > 0 ? x.move(x.moves(0), 2) : -1;
+    }
+
+    private void occurrencesInImage() {
+        commonTypes();
+        setup("a5/6/6/6/6/5A");
+        make("Af1-e1");
+        make("aa6-b6");
+        make("Ae1-f1");
+        x.image();
+        setup("a5/6/6/6/5A/6");
+        make("Af2-f3");
+        make("aa6-a5");
+        make("Af3-f2");
+        x.undo();
+        due("the first position, too", make("ab6-a6"), 2);
+        setup("a5/6/6/5b/6/5B");
+        make("Bf1xf3");
+        x.image();
+        x.back();
+        due("another move", make("Bf1-e1"), 1);
+        x.undo();
+        due("the move that was made", x.back(), 0);
+        dueText("gives the captured man back", text(), "a5/6/6/5b/6/5B");
+        setup("a5/6/6/6/6/5A");
+        make("Af1-e1");
+        make("aa6-b6");
+        make("Ae1-f1");
+        x.image();
+        setup("a5/6/6/6/6/5A");
+        make("Af1-f2");
+        make("aa6-a5");
+        make("Af2-f1");
+        x.undo();
+        due("what has occurred", make("ab6-a6"), 2);
     }
 
     private void promise26Undo() {
@@ -1153,6 +1274,7 @@ public final class PromisesTest {
         x.castle(0, 1, 0, 1, 1, 0);
         feed("xyz");
         for (int n = 0; n < 2; n++) {
+            x.moves(3);
             due("undo", x.undo(), 3);
             due("digest", x.digest(), digest);
             dueText("moves", all(), all);
