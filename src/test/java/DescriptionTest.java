@@ -498,6 +498,14 @@ public final class DescriptionTest extends Sentences {
         due("only one is untouched", x.count(7), 1);
         x.back();
         due("all rights are back", x.count(7), 4);
+        x.castle(0, 0, 6, 8, 11, 9);
+        x.castle(1, 0, 0, 1, 5, 4);
+        x.castle(2, 0, 7, 7, 10, 10);
+        x.castle(3, 0, 2, 1, 3, 0);
+        castlings("A4B/6");
+        due("a castling in the other row", x.make(x.moves(0)), 1);
+        due("which touches no other right", x.count(7), 3);
+        x.castle(0, 0, 0, 2, 5, 3);
         int[] squares = {0, 2, 5, 3, 1, 4};
         for (int square : squares) {
             x.castle(1, 0, 7, 7, 8, 8);
